@@ -117,10 +117,7 @@ public final class Scriptorium {
 
     public int order(int scribe, int a, int i, int b, int j, int n) {
         Passage passage = new Passage(scribe, a, i, b, j, n);
-        if (!isPossible(passage) || scribes[scribe].waiting >= MOST_ORDERS) {
-            return REFUSED;
-        }
-        return scribes[scribe].addOrder(passage);
+        return isPossible(passage) ? scribes[scribe].addOrder(passage) : REFUSED;
     }
 
     public int day() {
@@ -327,10 +324,8 @@ public final class Scriptorium {
         }
 
         boolean isAlike(Book other) {
-            if (isNoBook() || other.isNoBook()) {
-                return false;
-            }
-            return script == other.script || (hasPictures() && other.hasPictures());
+            // Two stones bear one script, but a stone is like nothing.
+            return !isNoBook() && (script == other.script || (hasPictures() && other.hasPictures()));
         }
 
         boolean hasPlace(int place) {
@@ -366,7 +361,7 @@ public final class Scriptorium {
             }
         }
 
-        /** A BARE place keeps no number, so that two of them never differ. */
+        /** A BARE place keeps no number, so that it is 0 as a sign and two of them never differ. */
         boolean paint(int place, int sort, long v) {
             if (!admits(sort)) {
                 return false;
@@ -377,10 +372,7 @@ public final class Scriptorium {
         }
 
         long signAt(int place) {
-            if (!hasPictures() || sorts[place] == BARE) {
-                return values[place];
-            }
-            return 4L * values[place] + sorts[place];
+            return hasPictures() ? 4L * values[place] + sorts[place] : values[place];
         }
 
         /** How many of n signs, from the first on, may stand in this book. */
@@ -435,10 +427,11 @@ public final class Scriptorium {
         }
 
         int addOrder(Passage passage) {
-            if (waiting < MOST_ORDERS) {
-                orders[waiting] = passage;
-                waiting++;
+            if (waiting >= MOST_ORDERS) {
+                return REFUSED;
             }
+            orders[waiting] = passage;
+            waiting++;
             return waiting;
         }
 

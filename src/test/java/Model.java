@@ -147,7 +147,7 @@ final class Model {
         List<Sign> ahead = new ArrayList<>(from.signs);
         for (int k = 0; k < n; k++) {
             Sign sign = ahead.get((int) i + k);
-            if (!mayStand(to.script, sign.sort()) ) {
+            if (!mayStand(to.script, sign.sort())) {
                 return -10 - k;
             }
             to.signs.set((int) j + k, sign);

@@ -6,7 +6,7 @@ final class ModelTest {
     private static final int RUNS = 4000;
     private static final int CALLS = 512;
     private static final int[] ODD = {
-        -1, -2, 6, 9, 40, 41, 100, 1000, 1001, Integer.MAX_VALUE, Integer.MAX_VALUE - 1, Integer.MIN_VALUE
+        -1, -2, 3, 6, 9, 40, 41, 100, 1000, 1001, Integer.MAX_VALUE, Integer.MAX_VALUE - 1, Integer.MIN_VALUE
     };
 
     private final Scriptorium x = new Scriptorium();
@@ -93,8 +93,7 @@ final class ModelTest {
             case 1: rareLaying(a); break;
             case 2: same("share(" + a + ", " + b + ")", x.share(a, b), m.share(a, b)); break;
             case 3: case 4: case 5: case 6: case 7: write(a); break;
-            case 8: case 9: case 10: case 11: case 12: passage(a, b); break;
-            case 13: case 14: case 15: passage(a, b); break;
+            case 8: case 9: case 10: case 11: case 12: case 13: case 14: case 15: passage(a, b); break;
             case 16: case 17: same("day()", x.day(), m.day()); break;
             case 18: fill(); break;
             case 19: sameScribe(who(), what); break;
