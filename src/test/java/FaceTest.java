@@ -1,10 +1,15 @@
+import java.io.IOException;
 import java.lang.reflect.Constructor;
 import java.lang.reflect.Field;
 import java.lang.reflect.Method;
 import java.lang.reflect.Modifier;
+import java.nio.file.Files;
+import java.nio.file.Path;
 import java.util.Arrays;
 import java.util.Set;
 import java.util.TreeSet;
+import java.util.regex.Matcher;
+import java.util.regex.Pattern;
 
 /** 'The public face' and rule 1 of LANGUAGE.md: the document's members, and no other that is seen from outside. */
 final class FaceTest {
@@ -16,10 +21,21 @@ final class FaceTest {
         "long sign(int, int) throws IllegalStateException IndexOutOfBoundsException",
         "int book(int, int)", "int differ(int, int)", "int chronicle(int, int)", "int count(int)"));
 
+    private static final Path DOCUMENT = Path.of("..", "shared", "DOC.md");
+    private static final String HEAD = "(\\w+ \\w+\\([^)]*\\)(?: throws [\\w, ]+)?)";
+    private static final Pattern IN_THE_FACE = Pattern.compile("    public " + HEAD + ";");
+    private static final Pattern AT_A_PROMISE = Pattern.compile("`" + HEAD + "`:.*");
+
     private static int wrong;
 
-    public static void main(String[] args) {
+    public static void main(String[] args) throws IOException {
         Class<?> c = Scriptorium.class;
+        if (Files.exists(DOCUMENT)) {
+            check(headsIn(IN_THE_FACE).equals(FACE), "'The public face' has these methods: " + FACE);
+            check(headsIn(AT_A_PROMISE).equals(FACE), "the promises are headed by these methods: " + FACE);
+        } else {
+            System.out.println("no " + DOCUMENT + " here: the face is not held against it");
+        }
         check(Modifier.isPublic(c.getModifiers()) && Modifier.isFinal(c.getModifiers()), "public and final");
         methods(c);
         constructors(c);
@@ -35,6 +51,19 @@ final class FaceTest {
             wrong++;
             System.out.println("does not hold: " + what);
         }
+    }
+
+    /** The methods' heads as the document tells them, without the names of the parameters. */
+    private static Set<String> headsIn(Pattern where) throws IOException {
+        Set<String> heads = new TreeSet<>();
+        for (String line : Files.readAllLines(DOCUMENT)) {
+            Matcher found = where.matcher(line);
+            if (found.matches()) {
+                String head = found.group(1).replaceAll("([(,] ?)(int|long) \\w+", "$1$2");
+                heads.add(head.replace("Exception, ", "Exception "));
+            }
+        }
+        return heads;
     }
 
     private static void methods(Class<?> c) {
